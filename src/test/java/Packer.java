@@ -1,0 +1,48 @@
+import java.math.BigInteger;
+
+/**
+ * The writing coder once more, with a bottom that never loses a bit: carries need no care here, so that
+ * the program's own carries are checked against something that is not built like them.
+ */
+final class Packer {
+    private BigInteger bottom = BigInteger.ZERO;
+    private int range = 255;
+    private int shifts = 0;
+
+    void bit(int p, int bit) {
+        int split = 1 + (range - 1) * p / 256;
+        if (bit == 1) {
+            bottom = bottom.add(BigInteger.valueOf(split));
+            range -= split;
+        } else {
+            range = split;
+        }
+        while (range < 128) {
+            range *= 2;
+            bottom = bottom.shiftLeft(1);
+            shifts++;
+        }
+    }
+
+    void bits(int p, int bits, int many) {
+        for (int i = many - 1; i >= 0; i--) {
+            bit(p, (bits >>> i) & 1);
+        }
+    }
+
+    /** How many bytes are written before the end: the first after 24 shifts, then one after each 8. */
+    int written() {
+        return shifts < 24 ? 0 : (shifts - 16) / 8;
+    }
+
+    /** All bytes, those of the end too. */
+    int[] octets() {
+        int size = written() + 4;
+        BigInteger all = bottom.shiftLeft(24 + 8 * written() - shifts);
+        int[] octets = new int[size];
+        for (int i = 0; i < size; i++) {
+            octets[i] = all.shiftRight(8 * (size - 1 - i)).intValue() & 255;
+        }
+        return octets;
+    }
+}
