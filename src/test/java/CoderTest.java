@@ -125,23 +125,50 @@ public final class CoderTest {
         CHECK.same("reading goes on", x.get(128, 3), 0);
     }
 
-    /** The bottom stays just under a carry for many bytes, and then has one (or, the other way, none). */
     private static void carriesGoThroughManyBytes() {
         Random random = new Random(5);
-        int runsOf255 = 0;
-        for (int run = 0; run < 300; run++) {
+        for (int run = 0; run < 400; run++) {
             KeyFrames x = new KeyFrames();
             Packer packer = new Packer();
+            int first = 2 + random.nextInt(250);
             x.write();
-            putBoth(x, packer, 1, 0, random.nextInt(8));
-            putBoth(x, packer, 1, 1, 1);
-            for (int i = 0; i < 6; i++) {
-                putBoth(x, packer, 255, random.nextInt(4) == 0 ? random.nextInt() : -1, 32);
-            }
-            putBoth(x, packer, 1 + random.nextInt(255), random.nextInt(), random.nextInt(33));
-            runsOf255 += compareOctets(x, packer) > 8 ? 1 : 0;
+            putUpToACarry(x, packer, first, random);
+            // With few bits behind it the carry comes by the end, with more before it.
+            putBoth(x, packer, 1 + random.nextInt(255), random.nextInt(), random.nextInt(20));
+            compareOctets(x, packer);
+            CHECK.same("the first byte", x.octet(0), first);
+            CHECK.same("empty behind it", x.octet(1), 0);
         }
-        CHECK.isTrue("some bytes stood at 255", runsOf255 > 0);
+    }
+
+    /**
+     * Bits that keep the bottom just under a boundary of its first byte, so that the bytes behind it are all
+     * 255, and then one more bit: with it the bottom crosses the boundary, and a carry goes through them all.
+     */
+    private static void putUpToACarry(KeyFrames x, Packer packer, int first, Random random) {
+        int full = 1 + random.nextInt(9);
+        int range = 255;
+        int toBoundary = first;
+        while (toBoundary > 0) {
+            int p = 1 + random.nextInt(255);
+            int split = 1 + (range - 1) * p / 256;
+            boolean crosses = packer.written() > full && split >= toBoundary;
+            if (crosses) {
+                CHECK.same("not yet crossed", x.octet(0), first - 1);
+                CHECK.same("full behind it", x.octet(full), 255);
+            }
+            // To stand on the boundary itself would be too early: then another p is tried.
+            if (crosses || split != toBoundary) {
+                int bit = crosses || split < toBoundary ? 1 : 0;
+                putBoth(x, packer, p, bit, 1);
+                toBoundary -= bit * split;
+                range = bit == 1 ? range - split : split;
+                while (range < 128) {
+                    range *= 2;
+                    toBoundary *= 2;
+                }
+            }
+        }
     }
 
     private static void bothWaysAtRandom() {
@@ -179,16 +206,13 @@ public final class CoderTest {
         return written;
     }
 
-    /** Ends the writing; answers how many bytes are 255. */
-    private static int compareOctets(KeyFrames x, Packer packer) {
+    /** Ends the writing. An object has 512 calls, so at most 300 of its bytes are looked at. */
+    private static void compareOctets(KeyFrames x, Packer packer) {
         int[] due = packer.octets();
         CHECK.same("bytes behind end", x.end(), due.length);
-        int full = 0;
-        for (int k = 0; k < Math.min(due.length, 400); k++) {
+        for (int k = 0; k < Math.min(due.length, 300); k++) {
             CHECK.same("octet " + k, x.octet(k), due[k]);
-            full += due[k] == 255 ? 1 : 0;
         }
-        return full;
     }
 
     private static void readBegins() {
