@@ -6,11 +6,8 @@ public final class BytesTest {
         newObject();
         feedKeepsOrder();
         feedCutsToMany();
-        feedRefuses();
-        feedEndsWhatIsBegun();
         refusedFeedChangesNothing();
         eraseForgetsBytes();
-        octetAnswersNone();
         CHECK.close();
     }
 
@@ -53,37 +50,6 @@ public final class BytesTest {
         }
     }
 
-    private static void feedRefuses() {
-        KeyFrames x = new KeyFrames();
-        for (int many : new int[] {-1, 17, Integer.MIN_VALUE, Integer.MAX_VALUE}) {
-            CHECK.refusesArgument("feed " + many, () -> x.feed(many, 0, 0, 0, 0));
-        }
-        for (int i = 0; i < 37; i++) {
-            x.feed(16, -1, -1, -1, -1);
-        }
-        CHECK.refusesState("592 and 9", () -> x.feed(9, 0, 0, 0, 0));
-        CHECK.same("592 and 8", x.feed(8, 0x01020304, 0x05060708, 0, 0), 600);
-        CHECK.refusesState("600 and 1", () -> x.feed(1, 0, 0, 0, 0));
-        CHECK.refusesArgument("600 and 17", () -> x.feed(17, 0, 0, 0, 0));
-        CHECK.same("600 and 0", x.feed(0, 0, 0, 0, 0), 600);
-        CHECK.same("octet 599", x.octet(599), 8);
-        CHECK.same("octet 600", x.octet(600), -1);
-    }
-
-    private static void feedEndsWhatIsBegun() {
-        for (int many : new int[] {0, 3}) {
-            KeyFrames x = new KeyFrames();
-            x.read();
-            x.feed(many, 0, 0, 0, 0);
-            CHECK.refusesState("get behind feed", () -> x.get(128, 1));
-            x.write();
-            x.put(1, 0, 32);
-            CHECK.same("feed behind writing", x.feed(many, -1, 0, 0, 0), 26 + many);
-            CHECK.refusesState("put behind feed", () -> x.put(128, 0, 1));
-            CHECK.refusesState("end behind feed", () -> x.end());
-        }
-    }
-
     private static void refusedFeedChangesNothing() {
         KeyFrames writing = new KeyFrames();
         writing.write();
@@ -121,15 +87,5 @@ public final class BytesTest {
         CHECK.same("its counts stay", x.count(5), 5);
         CHECK.same("feed behind erase", x.feed(1, 9 << 24, 0, 0, 0), 1);
         CHECK.same("the new byte", x.octet(0), 9);
-    }
-
-    private static void octetAnswersNone() {
-        KeyFrames x = new KeyFrames();
-        x.feed(2, 0x00FF0000, 0, 0, 0);
-        CHECK.same("octet 0", x.octet(0), 0);
-        CHECK.same("octet 1", x.octet(1), 255);
-        for (int k : new int[] {2, 599, 600, -1, Integer.MIN_VALUE, Integer.MAX_VALUE}) {
-            CHECK.same("octet " + k, x.octet(k), -1);
-        }
     }
 }

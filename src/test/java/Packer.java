@@ -35,6 +35,11 @@ final class Packer {
         return shifts < 24 ? 0 : (shifts - 16) / 8;
     }
 
+    /** Doublings that are left until the next byte is written. */
+    int count() {
+        return shifts < 24 ? 24 - shifts : 8 - shifts % 8;
+    }
+
     /** All bytes, those of the end too. */
     int[] octets() {
         int size = written() + 4;

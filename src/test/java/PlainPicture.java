@@ -1,6 +1,9 @@
 import java.util.Arrays;
 
-/** A picture as a test wants it: packs it, and tells which samples are due, by the document's words. */
+/**
+ * A picture as a test wants it, or as bytes tell it: packs it, and tells which samples are due, by the
+ * document's words.
+ */
 final class PlainPicture {
     static final int EVEN = 0;
     static final int DOWN = 1;
@@ -14,6 +17,10 @@ final class PlainPicture {
         {254, 254, 243, 230, 196, 177, 153, 140, 133, 130, 129}
     };
     private static final int[] LEAST = {5, 7, 11, 19, 35, 67};
+    /** From P 2 on, for a bit 0 and a bit 1: the next P, or below 0 a size of 1 to 4 or a row of EXTRA, from 5. */
+    private static final int[][] TREE = {
+        {}, {}, {-1, 3}, {4, 6}, {-2, 5}, {-3, -4}, {7, 8}, {-5, -6}, {9, 10}, {-7, -8}, {-9, -10}
+    };
 
     final int columns;
     final int rows;
@@ -107,7 +114,7 @@ final class PlainPicture {
     }
 
     private void packCoefficients(Packer packer, int k) {
-        int context = (k % columns > 0 ? someIn(k - 1) : 0) + (k >= columns ? someIn(k - columns) : 0);
+        int context = firstContext(k);
         boolean behindZero = false;
         for (int position = 0; position < 16; position++) {
             if (!behindZero) {
@@ -159,6 +166,61 @@ final class PlainPicture {
         for (int i = 0; i < EXTRA[kind].length; i++) {
             packer.bit(EXTRA[kind][i], (added >> (EXTRA[kind].length - 1 - i)) & 1);
         }
+    }
+
+    /** The picture that these bits are; whatever bits come, they are one. */
+    static PlainPicture unpacked(Unpacker bits) {
+        int columns = 1 + bits.bits(128, 2);
+        int rows = 1 + bits.bits(128, 2);
+        int q = bits.bits(128, 7);
+        PlainPicture picture = new PlainPicture(columns, rows, q, bits.bits(128, 6));
+        for (int i = 0; i < 264; i++) {
+            picture.told[i / 33][i / 11 % 3][i % 11] = bits.bit(250) == 1 ? bits.bits(128, 8) : NOT_TOLD;
+        }
+        for (int k = 0; k < columns * rows; k++) {
+            int way = bits.bit(112);
+            way += way == 1 ? bits.bit(86) : 0;
+            way += way == 2 ? bits.bit(140) : 0;
+            picture.ways[k] = way;
+            picture.read[k] = picture.unpackCoefficients(bits, k);
+        }
+        return picture;
+    }
+
+    private int firstContext(int k) {
+        return (k % columns > 0 ? someIn(k - 1) : 0) + (k >= columns ? someIn(k - columns) : 0);
+    }
+
+    private int unpackCoefficients(Unpacker bits, int k) {
+        int context = firstContext(k);
+        for (int position = 0; position < 16; position++) {
+            boolean behindZero = position > 0 && coefficients[k][position - 1] == 0;
+            if (!behindZero && bits.bit(probability(position, context, 0)) == 0) {
+                return position;
+            }
+            int size = 0;
+            if (bits.bit(probability(position, context, 1)) == 1) {
+                size = unpackSize(bits, position, context);
+                coefficients[k][position] = bits.bit(128) == 1 ? -size : size;
+            }
+            context = Math.min(2, size);
+        }
+        return 16;
+    }
+
+    private int unpackSize(Unpacker bits, int position, int context) {
+        int at = 2;
+        while (at > 0) {
+            at = TREE[at][bits.bit(probability(position, context, at))];
+        }
+        if (-at < 5) {
+            return -at;
+        }
+        int added = 0;
+        for (int p : EXTRA[-at - 5]) {
+            added = 2 * added + bits.bit(p);
+        }
+        return LEAST[-at - 5] + added;
     }
 
     /** By y and x. */

@@ -1,27 +1,54 @@
+import java.util.Arrays;
 import java.util.Random;
 
 /** Promises 9 to 12: pictures at random, packed and worked out by the tests' own plain code. */
 public final class RandomPictureTest {
     private static final Check CHECK = new Check("RandomPictureTest");
+    private static final PictureCheck PICTURE = new PictureCheck(CHECK);
     private static final int[] LARGEST = {1, 2, 5, 20, 100, 2114};
 
     public static void main(String[] args) {
+        picturesThatWerePacked();
+        bytesThatNobodyPacked();
+        CHECK.close();
+    }
+
+    private static void picturesThatWerePacked() {
         int checked = 0;
         int filtered = 0;
         for (int seed = 0; seed < 600; seed++) {
             PlainPicture picture = picture(new Random(seed));
-            int[] octets = picture.pack();
-            if (octets.length <= 600) {
-                int[][] samples = picture.samples();
-                checkSamples(seed, picture, samples, octets);
-                checkBlocks(seed, picture, octets);
+            if (picture.pack().length <= 600) {
+                PICTURE.all("picture " + seed, picture);
                 checked++;
                 filtered += picture.foursChanged > 0 ? 1 : 0;
             }
         }
         CHECK.isTrue("most pictures fit", checked > 400);
         CHECK.isTrue("many are filtered", filtered > 100);
-        CHECK.close();
+    }
+
+    /** Whatever bytes there are, they are a picture; most go on beyond their end. */
+    private static void bytesThatNobodyPacked() {
+        int beyond = 0;
+        for (int seed = 0; seed < 600; seed++) {
+            Random random = new Random(seed);
+            int[] octets = random.ints(random.nextInt(seed % 2 == 0 ? 30 : 601), 0, 256).toArray();
+            if (octets.length > 0 && seed % 10 == 0) {
+                octets[0] = 254 + random.nextInt(2);
+            }
+            // The flags of the probabilities stand in the bytes: few of them are told where zeros begin so.
+            if (seed % 3 == 0) {
+                Arrays.fill(octets, Math.min(3, octets.length), Math.min(6, octets.length), 0);
+            }
+            Unpacker bits = new Unpacker(octets);
+            PlainPicture picture = PlainPicture.unpacked(bits);
+            PICTURE.samples("bytes " + seed, picture, octets, bits.beyond());
+            PICTURE.blocks("bytes " + seed, picture, octets);
+            beyond += bits.beyond() > 0 ? 1 : 0;
+        }
+        CHECK.isTrue("many go on beyond", beyond > 100);
+        CHECK.isTrue("many do not", beyond < 500);
     }
 
     private static PlainPicture picture(Random random) {
@@ -60,32 +87,5 @@ public final class RandomPictureTest {
             coefficients[many - 1] = 1;
         }
         return coefficients;
-    }
-
-    private static void checkSamples(int seed, PlainPicture picture, int[][] samples, int[] octets) {
-        KeyFrames x = Feeder.fed(octets);
-        CHECK.same("blocks of " + seed, x.decode(), picture.ways.length);
-        int[] counts = {
-            picture.columns, picture.rows, picture.q, picture.level, picture.howManyTold(), 0, picture.foursChanged
-        };
-        for (int what = 0; what < 7; what++) {
-            CHECK.same("count " + what + " of " + seed, x.count(what), counts[what]);
-        }
-        for (int y = 0; y < samples.length; y++) {
-            for (int i = 0; i < samples[y].length; i++) {
-                CHECK.same("sample " + i + ", " + y + " of " + seed, x.sample(i, y), samples[y][i]);
-            }
-        }
-    }
-
-    private static void checkBlocks(int seed, PlainPicture picture, int[] octets) {
-        KeyFrames x = Feeder.decoded(octets);
-        for (int k = 0; k < picture.ways.length; k++) {
-            CHECK.same("way " + k + " of " + seed, x.block(k, 0), picture.ways[k]);
-            CHECK.same("read " + k + " of " + seed, x.block(k, 1), picture.read[k]);
-            for (int i = 0; i < 16; i++) {
-                CHECK.same("coefficient " + k + ", " + i + " of " + seed, x.block(k, 2 + i), picture.coefficients[k][i]);
-            }
-        }
     }
 }
