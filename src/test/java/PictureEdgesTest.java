@@ -17,6 +17,7 @@ public final class PictureEdgesTest {
         contextOfTheFirst();
         contextLater();
         bands();
+        eachOfTheElevenP();
         notBehindA0();
         noMoreOfThisBlock();
         sizes();
@@ -181,6 +182,24 @@ public final class PictureEdgesTest {
                 Arrays.fill(context, 10);
             }
             PICTURE.all("band " + band, picture);
+        }
+    }
+
+    private static void eachOfTheElevenP() {
+        CHECK.sentence("With the PROBABILITIES P of BAND and CONTEXT: P 0 .. P 10");
+        for (int i = 0; i < 11; i++) {
+            for (int told : new int[] {4, 252}) {
+                // All kinds of sizes, so that each P is asked.
+                PlainPicture picture = new PlainPicture(1, 2, 0, 0)
+                        .with(0, DOWN, 1, 0, 2, 3, 4, 5, 7, 11, 19, 35, 67, 0, 1, 18, 34, 66)
+                        .with(1, SLOPE, 66, 34, 18, 10, 6, 4, 3, 2, 1);
+                for (int[][] band : picture.told) {
+                    for (int[] context : band) {
+                        context[i] = told;
+                    }
+                }
+                PICTURE.all("P " + i, picture);
+            }
         }
     }
 

@@ -129,7 +129,7 @@ public final class RefusedCallsTest {
     }
 
     private static void eachRefusalInEachState() {
-        for (int state = 0; state < 7; state++) {
+        for (int state = 0; state < 9; state++) {
             Twins twins = new Twins();
             refuse(twins);
             come(twins, state);
@@ -138,27 +138,35 @@ public final class RefusedCallsTest {
         }
     }
 
-    /** New, with bytes, full, writing, writing and nearly full, reading, with a picture. */
+    /** New; with bytes; full; writing; and nearly full; and full; reading; and full; with a picture. */
     private static void come(Twins twins, int state) {
-        int feeds = new int[] {0, 3, 37, 0, 0, 3, 4}[state];
+        int feeds = new int[] {0, 3, 37, 0, 0, 0, 3, 37, 4}[state];
         for (int i = 0; i < feeds; i++) {
             twins.feed(16, i * 0x01234567 + 0x55AA1234);
         }
-        if (state == 2) {
-            twins.feed(8, 0x00FF00FF);
-        }
-        if (state == 3 || state == 4) {
-            twins.write();
-            for (int i = 0; i < (state == 3 ? 2 : 21); i++) {
-                twins.put(1, i, 32);
+        switch (state) {
+            case 2 -> twins.feed(8, 0x00FF00FF);
+            case 3 -> writeBytes(twins, 2);
+            case 4 -> writeBytes(twins, 20);
+            case 5 -> writeBytes(twins, 22);
+            case 6, 7 -> {
+                twins.read();
+                twins.get(99, 21);
+            }
+            case 8 -> twins.decode();
+            default -> {
             }
         }
-        if (state == 5) {
-            twins.read();
-            twins.get(99, 21);
+    }
+
+    /** 558 bytes by twenty puts, then 560, then 588. */
+    private static void writeBytes(Twins twins, int puts) {
+        twins.write();
+        for (int i = 0; i < puts; i++) {
+            twins.put(1, 0, i == 20 ? 3 : 32);
         }
-        if (state == 6) {
-            twins.decode();
+        if (puts == 20) {
+            twins.put(1, 0, 4);
         }
     }
 
@@ -174,7 +182,8 @@ public final class RefusedCallsTest {
             twins.get(40 + i, 32);
         }
         for (int k = 0; k < 250; k++) {
-            int at = twins.octets < 250 ? k : k * twins.octets / 249;
+            // Where there are more, the first and the last of them.
+            int at = twins.octets < 250 || k < 125 ? k : twins.octets - 250 + k;
             twins.same("octet " + at, twins.asked.octet(at), twins.left.octet(at));
         }
         for (int what = 0; what < 7; what++) {
