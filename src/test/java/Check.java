@@ -31,6 +31,13 @@ final class Check {
         }
     }
 
+    void text(String what, String got, String due) {
+        done++;
+        if (!got.equals(due)) {
+            tell(what + " answered " + got + ", due is " + due);
+        }
+    }
+
     void isTrue(String what, boolean holds) {
         same(what, holds ? 1 : 0, 1);
     }

@@ -1,4 +1,6 @@
 import java.math.BigInteger;
+import java.util.ArrayList;
+import java.util.List;
 
 /**
  * The writing coder once more, with a bottom that never loses a bit: carries need no care here, so that
@@ -8,8 +10,11 @@ final class Packer {
     private BigInteger bottom = BigInteger.ZERO;
     private int range = 255;
     private int shifts = 0;
+    /** All bits so far, each as its probability and itself. */
+    private final List<int[]> all = new ArrayList<>();
 
     void bit(int p, int bit) {
+        all.add(new int[] {p, bit});
         int split = 1 + (range - 1) * p / 256;
         if (bit == 1) {
             bottom = bottom.add(BigInteger.valueOf(split));
@@ -43,11 +48,29 @@ final class Packer {
     /** All bytes, those of the end too. */
     int[] octets() {
         int size = written() + 4;
-        BigInteger all = bottom.shiftLeft(24 + 8 * written() - shifts);
+        BigInteger whole = bottom.shiftLeft(24 + 8 * written() - shifts);
         int[] octets = new int[size];
         for (int i = 0; i < size; i++) {
-            octets[i] = all.shiftRight(8 * (size - 1 - i)).intValue() & 255;
+            octets[i] = whole.shiftRight(8 * (size - 1 - i)).intValue() & 255;
         }
         return octets;
+    }
+
+    /** The same bits as calls of put, as few as there can be: up to 32 with one probability in each. */
+    List<Call> puts() {
+        List<Call> puts = new ArrayList<>();
+        int from = 0;
+        while (from < all.size()) {
+            int p = all.get(from)[0];
+            int bits = 0;
+            int many = 0;
+            while (many < 32 && from + many < all.size() && all.get(from + many)[0] == p) {
+                bits = bits << 1 | all.get(from + many)[1];
+                many++;
+            }
+            puts.add(new Call("put", p, bits, many));
+            from += many;
+        }
+        return puts;
     }
 }

@@ -72,6 +72,11 @@ final class PlainPicture {
     }
 
     int[] pack() {
+        return packer().octets();
+    }
+
+    /** One that all bits of the picture have been given to. */
+    Packer packer() {
         Packer packer = new Packer();
         packer.bits(128, columns - 1, 2);
         packer.bits(128, rows - 1, 2);
@@ -91,7 +96,7 @@ final class PlainPicture {
             packWay(packer, ways[k]);
             packCoefficients(packer, k);
         }
-        return packer.octets();
+        return packer;
     }
 
     private static void packWay(Packer packer, int way) {
