@@ -305,6 +305,11 @@ public final class PictureEdgesTest {
         CHECK.column("h below 0", one(0, 0, 0, -2), 0, 0, 127, 127, 129, 129);
         CHECK.row("m above 0", one(0, 0, 4), 0, 0, 131, 129, 127, 126);
         CHECK.row("h above 0", one(0, 0, 2), 0, 0, 129, 129, 128, 127);
+        // Just above or below a whole number, so that no number next to 20091 or 35468 would do.
+        CHECK.row("610 20091 / 65536 is 187.004", one(79, 0, 5), 0, 0, 228, 169, 87, 28);
+        CHECK.row("-137 20091 / 65536 is -41.9993", one(89, 0, -1), 0, 0, 106, 119, 137, 150);
+        CHECK.row("704 35468 / 65536 is 381.005", one(115, 0, 4), 0, 0, 243, 176, 80, 13);
+        CHECK.row("364 35468 / 65536 is 196.998", one(119, 0, 2), 0, 0, 187, 153, 104, 69);
     }
 
     private static void dividedBy8() {
